@@ -606,8 +606,9 @@ public final class GoldHeaps {
                 }
             }
             if (game == SHARES) {
+                // A multiple of the other heap that is there to be taken can only be of the greater one, or of two alike.
                 long other = heaps[which == 0 ? 1 : 0];
-                return isMultipleFromGreater(heaps[which == 0 ? 0 : 1], other, many);
+                return other > 0 && many % other == 0;
             }
             return game != TIMES || many <= bound();
         }
@@ -672,10 +673,6 @@ public final class GoldHeaps {
                 return 3;
             }
             return game == TIMES ? 1 : 2;
-        }
-
-        private static boolean isMultipleFromGreater(long from, long other, long many) {
-            return other > 0 && from >= other && many % other == 0;
         }
 
         private boolean takesFrom(int which, int heap) {
