@@ -27,6 +27,14 @@ final class Due {
         due(what, yes ? 1 : 0, 1);
     }
 
+    static int asked() {
+        return asked;
+    }
+
+    static int wrong() {
+        return wrong;
+    }
+
     /** An object for one call whose answer does not hang on the board. */
     static GoldHeaps any() {
         if (calls == PROMISED_CALLS) {
