@@ -387,6 +387,9 @@ public final class GoldHeaps {
 
     /** TIMES for each t. */
     private static final class TimesGame {
+        /** More than any bound that can come up in going over all. */
+        private static final int ABOVE_BOUNDS = MOST_T * MOST_BY_ALL + 1;
+
         private final Sums[] sumsMade = new Sums[MOST_T + 1];
 
         /** Made when first asked for and then kept, as few objects ever need all of them. */
@@ -413,7 +416,7 @@ public final class GoldHeaps {
         static boolean isWonByAll(int t, int n, int b) {
             int[] least = new int[MOST_BY_ALL + 1];
             // No bound is enough to win at an empty heap.
-            least[0] = Integer.MAX_VALUE;
+            least[0] = ABOVE_BOUNDS;
             for (int heap = 1; heap <= n && heap <= MOST_BY_ALL; heap++) {
                 int taken = 1;
                 while (taken < heap && least[heap - taken] <= t * taken) {

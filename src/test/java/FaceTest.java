@@ -23,6 +23,7 @@ public final class FaceTest {
     public static void main(String[] args) throws IOException {
         constants();
         members();
+        document();
         nested();
         source(Files.readString(Path.of("src/main/java/GoldHeaps.java")));
         Due.end();
@@ -62,6 +63,19 @@ public final class FaceTest {
         Due.holds("one constructor", made.length == 1 && made[0].getParameterCount() == 0 && Modifier.isPublic(made[0].getModifiers()));
     }
 
+    /** The calls listed above are the document's. */
+    private static void document() throws IOException {
+        Path path = Path.of("../shared/DOC.md");
+        if (!Files.exists(path)) {
+            System.out.println("  " + path + " is not here: the face was not looked up");
+            return;
+        }
+        Set<String> told = new TreeSet<>();
+        Matcher call = Pattern.compile("(?m)^ +public (\\w+ \\w+)\\((.*)\\);$").matcher(Files.readString(path));
+        while (call.find()) told.add(call.group(1) + "(" + call.group(2).replaceAll("(\\w+) \\w+", "$1") + ")");
+        Due.holds("the document's face is " + told, told.equals(new TreeSet<>(Arrays.asList(FACE))));
+    }
+
     private static Class<?>[] classes() {
         Class<?>[] inside = GoldHeaps.class.getDeclaredClasses();
         Class<?>[] all = Arrays.copyOf(inside, inside.length + 1);
@@ -95,7 +109,7 @@ public final class FaceTest {
         Due.holds("no @", !code.contains("@"));
         Due.holds("plain signs alone", text.chars().allMatch(c -> c == '\n' || c >= 32 && c < 127));
         Matcher library = Pattern.compile("\\b(Math|Long|Integer|System|Arrays|String|StringBuilder)\\.(\\w+)").matcher(code);
-        Set<String> allowed = Set.of("Math.max", "Math.min", "Math.abs", "Long.bitCount", "Integer.MAX_VALUE");
+        Set<String> allowed = Set.of("Math.max", "Math.min", "Math.abs", "Long.bitCount");
         while (library.find()) Due.holds(library.group() + " is one of the library's few", allowed.contains(library.group()));
         methodLengths(text);
     }

@@ -83,17 +83,32 @@ final class Run {
         for (String call : calls) {
             String label = Says.now() + told(made) + " then " + call;
             GoldHeaps with = after(made);
-            GoldHeaps without = after(made);
             Due.due(label, answer(with, call), want);
-            boolean same = true;
-            for (String later : LATER) same &= sameBehind(label, with, without, later);
-            long moves = answer(without, "about(4)");
-            for (long i = 0; i < moves && same; i++) {
-                same = sameBehind(label, with, without, "undo()") && (moves > FEW || sameBehind(label, with, without, "digest()"));
-            }
-            sameBehind(label, with, without, "digest()");
+            sameLater(label, with, after(made));
         }
         return this;
+    }
+
+    /** Calls that only ask: on each of the boards of STATES later calls answer as if they had never been made. */
+    static void changesNothing(String... calls) {
+        for (String[] state : STATES) {
+            List<String> ahead = List.of(state);
+            for (String call : calls) {
+                GoldHeaps with = after(ahead);
+                answer(with, call);
+                sameLater(Says.now() + told(ahead) + " then " + call, with, after(ahead));
+            }
+        }
+    }
+
+    private static void sameLater(String label, GoldHeaps with, GoldHeaps without) {
+        boolean same = true;
+        for (String later : LATER) same &= sameBehind(label, with, without, later);
+        long moves = answer(without, "about(4)");
+        for (long i = 0; i < moves && same; i++) {
+            same = sameBehind(label, with, without, "undo()") && (moves > FEW || sameBehind(label, with, without, "digest()"));
+        }
+        sameBehind(label, with, without, "digest()");
     }
 
     private static boolean sameBehind(String label, GoldHeaps with, GoldHeaps without, String later) {

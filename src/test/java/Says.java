@@ -43,7 +43,7 @@ final class Says {
         return now;
     }
 
-    /** The words of each test are the document's, and no piece of a promise is without a test. */
+    /** The words of each test are the document's, and no piece of what it promises is without a test. */
     static void lookUp() throws IOException {
         System.out.println("  " + count + " sentences");
         if (!Files.exists(DOCUMENT)) {
@@ -56,7 +56,7 @@ final class Says {
             for (String words : entry.getValue()) Due.holds(entry.getKey() + " has the words '" + words + "'", text.contains(words));
         }
         for (Map.Entry<String, String> entry : sections.entrySet()) {
-            if (entry.getKey().startsWith("Promise ")) piecesHaveTests(entry.getKey(), entry.getValue());
+            if (entry.getKey().matches("What it is|Terms|Promise \\d+")) piecesHaveTests(entry.getKey(), entry.getValue());
         }
     }
 

@@ -1,8 +1,9 @@
 import java.io.IOException;
 
-/** Each sentence of the document that names a boundary case, by itself; all promises, 1 to 20. */
+/** Each sentence of the document by itself: "What it is", "Terms", promises 1 to 20. */
 public final class SaysTest {
     public static void main(String[] args) throws IOException {
+        GamesSay.all();
         TermsSay.all();
         AnyLengthSays.all();
         ByAllSays.all();
